@@ -99,6 +99,10 @@ public final class PromiseTest {
         Check.due("vectors are numbered anew", 0, () -> x.vector(false, 0, 0, 0, 0, 0, 0));
         Check.due("no old entry", -1, () -> x.entered(0));
         Check.refused("no old result", Check.NO_ELEMENT, () -> x.result(0, 0));
+        x.begin(2);
+        x.weights(7, 7, 0, 0, 0, 0);
+        x.cycle(1);
+        Check.due("half a set of before is forgotten", 0, () -> x.about(4));
     }
 
     private static void promise3() {
