@@ -18,24 +18,12 @@ final class Check {
     private static int wrong = 0;
 
     static void due(String call, long want, Call call1) {
-        String got;
-        try {
-            got = Long.toString(call1.run());
-        } catch (RuntimeException e) {
-            got = name(e);
-        }
-        compare(call, Long.toString(want), got);
+        compare(call, Long.toString(want), answer(call1));
     }
 
     /** The very class is due, not one below it: a machine's exception is no answer. */
     static void refused(String call, Class<? extends RuntimeException> want, Call call1) {
-        String got;
-        try {
-            got = Long.toString(call1.run());
-        } catch (RuntimeException e) {
-            got = name(e);
-        }
-        compare(call, "throws." + want.getSimpleName(), got);
+        compare(call, "throws." + want.getSimpleName(), answer(call1));
     }
 
     static void refusedDeed(String call, Class<? extends RuntimeException> want, Deed deed) {
@@ -65,8 +53,13 @@ final class Check {
     static final Class<NoSuchElementException> NO_ELEMENT = NoSuchElementException.class;
     static final Class<UnsupportedOperationException> UNSUPPORTED = UnsupportedOperationException.class;
 
-    static String name(RuntimeException e) {
-        return "throws." + e.getClass().getSimpleName();
+    /** What the call answers, or throws.E for the exception's very class E. */
+    static String answer(Call call) {
+        try {
+            return Long.toString(call.run());
+        } catch (RuntimeException e) {
+            return "throws." + e.getClass().getSimpleName();
+        }
     }
 
     private static void compare(String what, String want, String got) {

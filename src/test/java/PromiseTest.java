@@ -2,12 +2,6 @@ import java.util.Arrays;
 
 /** One method a promise: ordinary inputs, the edges that the document names, wrong inputs. */
 public final class PromiseTest {
-    private static final int INPUT = 0;
-    private static final int SUM = 1;
-    private static final int WEIGHT = 2;
-    private static final int NEXT = 3;
-    private static final int MARK = 4;
-
     public static void main(String[] args) {
         promise1();
         promise2();
@@ -70,8 +64,8 @@ public final class PromiseTest {
         }
         Check.due("side behind a refused begin", 3, () -> x.about(6));
         Check.due("cycles behind a refused begin", 1, () -> x.about(0));
-        Check.due("INPUT behind a refused begin", 1, () -> x.cell(0, 0, INPUT));
-        Check.due("NEXT behind a refused begin", 3, () -> x.cell(0, 2, NEXT));
+        Check.due("INPUT behind a refused begin", 1, () -> x.cell(0, 0, Squares.INPUT));
+        Check.due("NEXT behind a refused begin", 3, () -> x.cell(0, 2, Squares.NEXT));
         Check.due("entered behind a refused begin", 1, () -> x.entered(0));
     }
 
@@ -90,11 +84,11 @@ public final class PromiseTest {
         x.begin(2);
         isEmpty("begun anew", x, 2);
         x.cycle(3);
-        Check.due("nothing is fed any more", 0, () -> x.cell(1, 0, INPUT));
+        Check.due("nothing is fed any more", 0, () -> x.cell(1, 0, Squares.INPUT));
         Check.due("nothing is reached any more", 0, () -> x.about(5));
         x.weights(7, 7, 0, 0, 0, 0);
         x.cycle(1);
-        Check.due("a first row needs no gap", 7, () -> x.cell(0, 0, NEXT));
+        Check.due("a first row needs no gap", 7, () -> x.cell(0, 0, Squares.NEXT));
         Check.due("a set begins anew", 0, () -> x.about(4));
         Check.due("vectors are numbered anew", 0, () -> x.vector(false, 0, 0, 0, 0, 0, 0));
         Check.due("no old entry", -1, () -> x.entered(0));
@@ -115,8 +109,8 @@ public final class PromiseTest {
         Check.due("rows that wait", 0, () -> x.about(2));
         for (int i = 0; i < 6; i++) {
             int c = i;
-            Check.due("NEXT of row 0", 11 + c, () -> x.cell(0, c, NEXT));
-            Check.due("NEXT of row 1", 1 + c, () -> x.cell(1, c, NEXT));
+            Check.due("NEXT of row 0", 11 + c, () -> x.cell(0, c, Squares.NEXT));
+            Check.due("NEXT of row 1", 1 + c, () -> x.cell(1, c, Squares.NEXT));
         }
         Check.due("a row that was let in keeps its number", 2, () -> x.weights(0, 0, 0, 0, 0, 0));
 
@@ -144,7 +138,7 @@ public final class PromiseTest {
         x.cycle(2000);
         Check.due("all rows are in", 0, () -> x.about(2));
         Check.due("all fresh ones are in", 20, () -> x.about(3));
-        Check.due("the last row", 119, () -> x.cell(0, 5, NEXT));
+        Check.due("the last row", 119, () -> x.cell(0, 5, Squares.NEXT));
         Check.due("the last product", 114 + 115 + 116 + 117 + 118 + 119, () -> x.result(19, 0));
         Check.refused("row 121 when all are in", Check.UNSUPPORTED, () -> x.weights(0, 0, 0, 0, 0, 0));
         x.begin(1);
@@ -160,7 +154,7 @@ public final class PromiseTest {
         for (int i = 0; i < 6; i++) {
             int r = i;
             x.cycle(1);
-            Check.due("element " + r + " is fed", 1 + r, () -> x.cell(r, 0, INPUT));
+            Check.due("element " + r + " is fed", 1 + r, () -> x.cell(r, 0, Squares.INPUT));
         }
         Check.due("the fresh one waits", 1, () -> x.about(1));
         Check.due("a vector that entered keeps its number", 2, () -> x.vector(false, 0, 0, 0, 0, 0, 0));
@@ -179,7 +173,7 @@ public final class PromiseTest {
         x.cycle(200);
         Check.due("the last one is in", 200, () -> x.entered(199));
         Check.refused("vector 201 when all are in", Check.UNSUPPORTED, () -> x.vector(false, 0, 0, 0, 0, 0, 0));
-        Check.due("INPUT of the last", 199, () -> x.cell(0, 0, INPUT));
+        Check.due("INPUT of the last", 199, () -> x.cell(0, 0, Squares.INPUT));
         x.begin(1);
         Check.due("begin makes room", 0, () -> x.vector(false, 0, 0, 0, 0, 0, 0));
     }
@@ -253,7 +247,7 @@ public final class PromiseTest {
             Check.due("no row comes in till the mark is through, side " + side, side, () -> x.about(2));
             x.cycle(1);
             Check.due("then one does, side " + side, side - 1, () -> x.about(2));
-            Check.due("into row 0", side + 1, () -> x.cell(0, 0, NEXT));
+            Check.due("into row 0", side + 1, () -> x.cell(0, 0, Squares.NEXT));
         }
     }
 
@@ -269,9 +263,9 @@ public final class PromiseTest {
         x.vector(true, 1, 1, 1, 0, 0, 0);
         Check.due("cycle(50000)", 50000, () -> x.cycle(50000));
         Check.due("result", 147, () -> x.result(0, 0));
-        Check.due("the sums are gone", 0, () -> x.cell(2, 2, SUM));
-        Check.due("the weights are there", 3, () -> x.cell(2, 2, WEIGHT));
-        Check.due("the next row is in", 1, () -> x.cell(0, 0, NEXT));
+        Check.due("the sums are gone", 0, () -> x.cell(2, 2, Squares.SUM));
+        Check.due("the weights are there", 3, () -> x.cell(2, 2, Squares.WEIGHT));
+        Check.due("the next row is in", 1, () -> x.cell(0, 0, Squares.NEXT));
         x.weights(2, 2, 2, 0, 0, 0);
         x.weights(3, 3, 3, 0, 0, 0);
         Check.due("cycle(40000)", 90000, () -> x.cycle(40000));
@@ -327,7 +321,7 @@ public final class PromiseTest {
 
     /** The five that are due, in the order of cell's what. */
     private static void registers(SquareStream x, String when, int r, int c, int... due) {
-        for (int i = INPUT; i <= MARK; i++) {
+        for (int i = Squares.INPUT; i <= Squares.MARK; i++) {
             int what = i;
             Check.due(when + " cell(" + r + ", " + c + ", " + what + ")", due[what], () -> x.cell(r, c, what));
         }

@@ -136,6 +136,10 @@ final class SlowSquare {
         };
     }
 
+    int vectorsCome() {
+        return vectors.size();
+    }
+
     private int reachedCells() {
         int count = 0;
         for (Cell[] row : cells) {
