@@ -35,7 +35,11 @@ public final class CallsTest {
     /** Promise 1: "Of side 1, as begin(1) makes it." */
     private static void aNewOneIsAsBeginOneMakesIt() {
         Check.due("a new one's side", 1, () -> new SquareStream().about(6));
-        Squares.alikeFromNow("a new one", Squares.of(1), new SquareStream());
+        Squares.alikeFromNow("a new one", empty(1), new SquareStream());
+    }
+
+    private static Squares.Recipe empty(int side) {
+        return new Squares.Recipe(0, 0, () -> Squares.of(side));
     }
 
     /** Promise 2: "A square of a side: no rows, no vectors, no cycles." */
@@ -48,7 +52,7 @@ public final class CallsTest {
                 Check.due("begun from state " + state + ": cycles", 0, () -> x.about(0));
                 Check.due("begun from state " + state + ": vectors", 0, () -> x.about(1));
                 Check.due("begun from state " + state + ": rows", 0, () -> x.about(2));
-                Squares.alikeFromNow("begun from state " + state + ", side " + side, Squares.of(side), x);
+                Squares.alikeFromNow("begun from state " + state + ", side " + side, empty(side), x);
             }
             state++;
         }
@@ -70,30 +74,33 @@ public final class CallsTest {
 
     /** Promise 3: "those beyond the side don't matter" */
     private static void weightsBeyondTheSideDontMatter(int side) {
+        Squares.Recipe zeros = new Squares.Recipe(2 * side, 1, () -> withJunkWeights(side, 0));
+        Squares.alikeFromNow("weights beyond side " + side, zeros, withJunkWeights(side, GREATEST));
+    }
+
+    private static SquareStream withJunkWeights(int side, int junk) {
         SquareStream x = Squares.of(side);
-        SquareStream y = Squares.of(side);
         for (int n = 0; n < 2 * side; n++) {
-            int[] six = sixWithJunk(side, n, 0);
+            int[] six = sixWithJunk(side, n, junk);
             x.weights(six[0], six[1], six[2], six[3], six[4], six[5]);
-            int[] other = sixWithJunk(side, n, GREATEST - n);
-            y.weights(other[0], other[1], other[2], other[3], other[4], other[5]);
         }
         Squares.vector(x, true, 0);
-        Squares.vector(y, true, 0);
-        Squares.alikeFromNow("weights beyond side " + side, x, y);
+        return x;
     }
 
     /** Promise 4: "those beyond the side don't matter" */
     private static void elementsBeyondTheSideDontMatter(int side) {
+        Squares.Recipe zeros = new Squares.Recipe(side, 3, () -> withJunkElements(side, 0));
+        Squares.alikeFromNow("elements beyond side " + side, zeros, withJunkElements(side, LEAST + 1));
+    }
+
+    private static SquareStream withJunkElements(int side, int junk) {
         SquareStream x = Squares.withSet(side);
-        SquareStream y = Squares.withSet(side);
         for (int v = 0; v < 3; v++) {
-            int[] six = sixWithJunk(side, v, 0);
+            int[] six = sixWithJunk(side, v, junk);
             x.vector(v == 0, six[0], six[1], six[2], six[3], six[4], six[5]);
-            int[] other = sixWithJunk(side, v, LEAST + v);
-            y.vector(v == 0, other[0], other[1], other[2], other[3], other[4], other[5]);
         }
-        Squares.alikeFromNow("elements beyond side " + side, x, y);
+        return x;
     }
 
     private static int[] sixWithJunk(int side, int n, int junk) {
@@ -146,27 +153,32 @@ public final class CallsTest {
 
     /** Promise 5: "So many cycles: how many there were in all." */
     private static void cyclesInOneCallOrMany() {
-        for (Squares.Recipe recipe : Squares.states()) {
-            SquareStream x = recipe.make();
-            SquareStream y = recipe.make();
-            int n = Math.min(300, 100000 - x.about(0));
-            int end = x.about(0) + n;
-            Check.due("cycle(" + n + ")", end, () -> x.cycle(n));
-            for (int i = 0; i < n; i++) {
-                int due = end - n + i + 1;
-                Check.due("cycle(1)", due, () -> y.cycle(1));
-            }
-            Squares.alikeFromNow("one call or many", y, x);
+        for (Squares.Recipe state : Squares.states()) {
+            SquareStream x = state.make();
+            int first = x.about(0);
+            int n = Math.min(300, 100000 - first);
+            Check.due("cycle(" + n + ")", first + n, () -> x.cycle(n));
+            Squares.Recipe oneByOne = new Squares.Recipe(state.rows(), state.vectors(), () -> cycledOneByOne(state, n));
+            Squares.alikeFromNow("one call or many", oneByOne, x);
         }
+    }
+
+    private static SquareStream cycledOneByOne(Squares.Recipe state, int n) {
+        SquareStream x = state.make();
+        int first = x.about(0);
+        for (int i = 1; i <= n; i++) {
+            Check.due("cycle(1)", first + i, () -> x.cycle(1));
+        }
+        return x;
     }
 
     /** Promise 5: n may be 0, for only what is below is refused. */
     private static void cycleTakesZero() {
-        for (Squares.Recipe recipe : Squares.states()) {
-            SquareStream x = recipe.make();
+        for (Squares.Recipe state : Squares.states()) {
+            SquareStream x = state.make();
             int cycles = x.about(0);
             Check.due("cycle(0)", cycles, () -> x.cycle(0));
-            Squares.alikeFromNow("cycle(0)", recipe.make(), x);
+            Squares.alikeFromNow("cycle(0)", state, x);
         }
     }
 

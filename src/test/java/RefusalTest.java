@@ -16,7 +16,7 @@ public final class RefusalTest {
     public static void main(String[] args) {
         List<Squares.Recipe> states = Squares.states();
         for (int s = 0; s < states.size(); s++) {
-            for (Refusal refusal : refusals(states.get(s).make())) {
+            for (Refusal refusal : refusals(states.get(s))) {
                 changesNothing("state " + s + " " + refusal.name(), states.get(s), refusal);
             }
         }
@@ -26,10 +26,11 @@ public final class RefusalTest {
     private static void changesNothing(String name, Squares.Recipe state, Refusal refusal) {
         SquareStream refused = state.make();
         Check.refused(name, refusal.due(), () -> refusal.wrong().on(refused));
-        Squares.alikeFromNow(name, state.make(), refused);
+        Squares.alikeFromNow(name, state, refused);
     }
 
-    private static List<Refusal> refusals(SquareStream x) {
+    private static List<Refusal> refusals(Squares.Recipe state) {
+        SquareStream x = state.make();
         List<Refusal> all = new ArrayList<>();
         for (int side : new int[] {0, 7, -1, Integer.MIN_VALUE, Integer.MAX_VALUE}) {
             all.add(new Refusal("begin(" + side + ")", Check.ILLEGAL, y -> {
@@ -45,7 +46,10 @@ public final class RefusalTest {
             all.add(new Refusal("about(" + what + ")", Check.ILLEGAL, y -> y.about(what)));
         }
         addCells(all, x.about(6));
-        addVectors(all, x);
+        addVectors(all, x, state.vectors());
+        if (state.rows() == 120) {
+            all.add(new Refusal("row 120", Check.UNSUPPORTED, y -> y.weights(9, 9, 9, 9, 9, 9)));
+        }
         return all;
     }
 
@@ -60,8 +64,7 @@ public final class RefusalTest {
         }
     }
 
-    private static void addVectors(List<Refusal> all, SquareStream x) {
-        int vectors = vectorsOf(x);
+    private static void addVectors(List<Refusal> all, SquareStream x, int vectors) {
         for (int v : new int[] {-1, vectors, Integer.MIN_VALUE, Integer.MAX_VALUE}) {
             all.add(new Refusal("entered(" + v + ")", Check.BOUNDS, y -> y.entered(v)));
             all.add(new Refusal("result(" + v + ", 0)", Check.BOUNDS, y -> y.result(v, 0)));
@@ -73,19 +76,6 @@ public final class RefusalTest {
         if (vectors == 200) {
             all.add(new Refusal("vector 200", Check.UNSUPPORTED, y -> y.vector(false, 9, 9, 9, 9, 9, 9)));
             all.add(new Refusal("vector 200, fresh", Check.UNSUPPORTED, y -> y.vector(true, 9, 9, 9, 9, 9, 9)));
-            all.add(new Refusal("row 120", Check.UNSUPPORTED, y -> y.weights(9, 9, 9, 9, 9, 9)));
         }
-    }
-
-    private static int vectorsOf(SquareStream x) {
-        int count = 0;
-        while (count < 200 && !Check.answer(answerOfEntered(x, count)).startsWith("throws")) {
-            count++;
-        }
-        return count;
-    }
-
-    private static Check.Call answerOfEntered(SquareStream x, int v) {
-        return () -> x.entered(v);
     }
 }
